@@ -137,7 +137,9 @@ public final class TwinPool {
         }
         leaving[d] = true;
         int has = copiesOn[d];
-        takeAwayIfLeft(d);
+        if (hasLeft(d)) {
+            takeAway(d);
+        }
         return has;
     }
 
@@ -236,10 +238,8 @@ public final class TwinPool {
         leaving[d] = false;
     }
 
-    private void takeAwayIfLeft(int d) {
-        if (leaving[d] && copiesOn[d] == 0) {
-            takeAway(d);
-        }
+    private boolean hasLeft(int d) {
+        return leaving[d] && copiesOn[d] == 0;
     }
 
     /** The emptiest disk but one of all that stay and have a free place; NONE if there is none. */
@@ -366,7 +366,9 @@ public final class TwinPool {
         lesser[c] = otherThan(c, d);
         greater[c] = NONE;
         copiesOn[d]--;
-        takeAwayIfLeft(d);
+        if (hasLeft(d)) {
+            takeAway(d);
+        }
     }
 
     private void moveCopy(int c, int from, int to) {

@@ -1,15 +1,18 @@
+import java.util.ArrayList;
 import java.util.Map;
 import java.util.TreeMap;
 
 /** Long mixed runs of calls, the same each time, on TwinPool and on PlainPool: every answer must agree. */
 public final class ModelTest {
-    private static final int RUNS = 400;
+    private static final int RUNS = 1000;
     private static final int CALLS = 512;
+    private static final int CALLS_FOR_THE_STATE = 120;
 
     private static final Check check = new Check();
     private static final Map<String, Integer> met = new TreeMap<>();
 
     private long seed;
+    private int callsLeft = CALLS;
     private final int most;
     private final TwinPool pool = new TwinPool();
     private final PlainPool plain = new PlainPool();
@@ -53,7 +56,7 @@ public final class ModelTest {
     }
 
     private void play(int run) {
-        for (int i = 0; i < CALLS; i++) {
+        while (callsLeft > CALLS_FOR_THE_STATE) {
             oneCall(run);
         }
         wholeState(run);
@@ -63,6 +66,7 @@ public final class ModelTest {
     }
 
     private void same(int run, String call, String due, String got) {
+        callsLeft--;
         check.due("run " + run + ": " + call, due, got);
         String name = call.substring(0, call.indexOf('('));
         met.merge(name + (due.startsWith("throws.") ? " threw" : " answered"), 1, Integer::sum);
@@ -114,21 +118,47 @@ public final class ModelTest {
     }
 
     private void looks(int run, int c, int d) {
-        int i = below(6) - 1;
-        int what = below(10) - 1;
-        same(run, "read(" + c + ", " + i + ")", Check.answerOf(() -> plain.read(c, i)), Check.answerOf(() -> pool.read(c, i)));
-        for (boolean second : new boolean[] {false, true}) {
-            same(run, "place(" + c + ", " + second + ")",
-                    Check.answerOf(() -> plain.place(c, second)), Check.answerOf(() -> pool.place(c, second)));
-        }
+        lookWord(run, c, below(6) - 1);
+        lookPlace(run, c, false);
+        lookPlace(run, c, true);
+        lookAbout(run, d, below(6) - 1);
+        lookCount(run, below(9) - 1);
+    }
+
+    private void lookWord(int run, int c, int i) {
+        same(run, "read(" + c + ", " + i + ")",
+                Check.answerOf(() -> plain.read(c, i)), Check.answerOf(() -> pool.read(c, i)));
+    }
+
+    private void lookPlace(int run, int c, boolean second) {
+        same(run, "place(" + c + ", " + second + ")",
+                Check.answerOf(() -> plain.place(c, second)), Check.answerOf(() -> pool.place(c, second)));
+    }
+
+    private void lookAbout(int run, int d, int what) {
         same(run, "about(" + d + ", " + what + ")",
                 Check.answerOf(() -> plain.about(d, what)), Check.answerOf(() -> pool.about(d, what)));
-        same(run, "count(" + what + ")", Check.answerOf(() -> plain.count(what)), Check.answerOf(() -> pool.count(what)));
+    }
+
+    private void lookCount(int run, int what) {
+        same(run, "count(" + what + ")",
+                Check.answerOf(() -> plain.count(what)), Check.answerOf(() -> pool.count(what)));
     }
 
     private void wholeState(int run) {
-        for (int c = -1; c <= 400; c++) {
-            looks(run, c, Math.min(c, 12));
+        for (int what = 0; what <= 6; what++) {
+            lookCount(run, what);
+        }
+        for (int d = 0; d <= 11; d++) {
+            for (int what = 1; what <= 3; what++) {
+                lookAbout(run, d, what);
+            }
+        }
+        for (int c : new ArrayList<>(plain.chunks.keySet())) {
+            if (callsLeft >= 2) {
+                lookPlace(run, c, false);
+                lookPlace(run, c, true);
+            }
         }
     }
 }
